@@ -307,7 +307,7 @@ public final class Phaselock {
             number++;
             int position = number % FRAME_LENGTH;
             if (position < SYNC_LENGTH) {
-                value = SYNC_WORD >> (SYNC_LENGTH - 1 - position) & 1;
+                value = (SYNC_WORD >> (SYNC_LENGTH - 1 - position)) & 1;
             } else {
                 value = shiftRegister();
             }
@@ -315,8 +315,8 @@ public final class Phaselock {
 
         private int shiftRegister() {
             int lowest = register & 1;
-            int second = register >> 1 & 1;
-            register = register >> 1 | (lowest ^ second) << 6;
+            int second = (register >> 1) & 1;
+            register = (register >> 1) | ((lowest ^ second) << 6);
             return lowest;
         }
     }
@@ -326,11 +326,11 @@ public final class Phaselock {
         int values = 65535;
 
         void remember(int value) {
-            values = (values << 1 | value) & 65535;
+            values = ((values << 1) | value) & 65535;
         }
 
         boolean hasChangedSince(int ticksAgo) {
-            return ((values ^ values >> ticksAgo) & 1) == 1;
+            return ((values ^ (values >> ticksAgo)) & 1) == 1;
         }
 
         int findLevel() {
@@ -349,7 +349,7 @@ public final class Phaselock {
 
         void add(boolean hasChanged) {
             ticks++;
-            changed[ticks & WINDOW - 1] = hasChanged;
+            changed[ticks & (WINDOW - 1)] = hasChanged;
         }
 
         int sumCosts(int remainder) {
@@ -363,8 +363,8 @@ public final class Phaselock {
         }
 
         private static int findDistance(int one, int other) {
-            int forward = one - other & REMAINDERS - 1;
-            int backward = other - one & REMAINDERS - 1;
+            int forward = (one - other) & (REMAINDERS - 1);
+            int backward = (other - one) & (REMAINDERS - 1);
             return Math.min(forward, backward);
         }
     }
@@ -488,7 +488,7 @@ public final class Phaselock {
 
         void add(int value) {
             count++;
-            latest32 = latest32 << 1 | value;
+            latest32 = (latest32 << 1) | value;
         }
 
         boolean remembers(int ago) {
@@ -496,7 +496,7 @@ public final class Phaselock {
         }
 
         int findBit(int ago) {
-            return latest32 >>> (ago - 1) & 1;
+            return (latest32 >>> (ago - 1)) & 1;
         }
 
         boolean endsWithSyncWord() {
@@ -536,7 +536,7 @@ public final class Phaselock {
         private final int[] window = new int[WINDOW];
 
         void add(int phase, boolean slipped) {
-            window[count & WINDOW - 1] = phase;
+            window[count & (WINDOW - 1)] = phase;
             count++;
             latest = phase;
             boolean steady = !slipped && isWithin(phase, -QUARTER_BIT, QUARTER_BIT - 1);

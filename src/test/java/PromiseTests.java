@@ -381,6 +381,17 @@ public final class PromiseTests {
         checks.due("Hogge, positive", y.error(), 16);
         y.run(48);
         checks.due("Hogge without an edge, again", y.error(), 0);
+        Phaselock z = unsteered(0, 1);
+        z.run(31);
+        z.setPhase(0);
+        z.run(15);
+        z.setPhase(0);
+        z.run(1);
+        z.setPhase(8192);
+        z.run(1);
+        z.setPhase(65535);
+        z.run(1);
+        checks.due("Hogge by the later one of two edges", z.error(), 96);
     }
 
     private void multiplying() {
@@ -402,6 +413,10 @@ public final class PromiseTests {
         Phaselock z = unsteered(32767, 2);
         z.run(41);
         checks.due("product with the edges of the range", z.error(), 4);
+        // Once more one less than the range, 16383 at the tick 37: 2 within, and 6 outside.
+        Phaselock w = unsteered(65535, 2);
+        w.run(49);
+        checks.due("product with 16383 outside", w.error(), -4);
     }
 
     private void gardner() {
@@ -444,6 +459,11 @@ public final class PromiseTests {
         Phaselock z = unsteered(0, 3);
         z.run(4);
         checks.due("other detectors measure none at a late strobe", z.error(), 0);
+        Phaselock w = unsteered(36864, 4);
+        w.run(42);
+        checks.due("early-late ahead of a level of zeros", w.error(), 0);
+        w.run(1);
+        checks.due("early-late with the level 0 at the early strobe", w.error(), 0 - 8);
     }
 
     private void resetBehindEarlyLate() {
@@ -777,6 +797,24 @@ public final class PromiseTests {
         checks.due("a loss with three misses", x.losses(), 1);
         checks.due("hunt with three misses", x.alignment(), 0);
         checks.due("no frame with misses", x.frames(), 0);
+        // The bits 136 to 141 are the sync word by chance, 15 bits on; 24 bits behind that it isn't.
+        pass(x, 14 * 16);
+        checks.due("hunt ahead of a chance sync word", x.alignment(), 0);
+        x.run(16);
+        checks.due("verify at a chance sync word", x.alignment(), 1);
+        pass(x, 24 * 16);
+        checks.due("hunt behind a chance sync word", x.alignment(), 0);
+        pass(x, 8 * 16);
+        checks.due("verify behind a loss", x.alignment(), 1);
+        pass(x, 48 * 16);
+        checks.due("sync behind a loss", x.alignment(), 2);
+        skipOne(x);
+        pass(x, 70 * 16);
+        checks.due("no second loss with two misses", x.losses(), 1);
+        x.run(16);
+        checks.due("a second loss", x.losses(), 2);
+        checks.due("hunt behind a second loss", x.alignment(), 0);
+        checks.due("no frame with misses still", x.frames(), 0);
     }
 
     private void missesAreForgotten() {
