@@ -40,8 +40,6 @@ public final class PromiseTests {
         tests.gardner();
         tests.earlyLate();
         tests.resetBehindEarlyLate();
-        tests.integralIsKeptInRange();
-        tests.controlIsKeptInRange();
         tests.receivedBits();
         tests.phase();
         tests.repeated();
@@ -58,29 +56,6 @@ public final class PromiseTests {
         tests.costsOfLatestTicks();
         tests.bestPhaseOfSeveral();
         tests.checks.finish("PromiseTests");
-    }
-
-    /** A simulator whose receiver isn't steered. */
-    private static Phaselock unsteered(int phase) {
-        Phaselock x = new Phaselock();
-        x.setGains(0, 0);
-        x.setPhase(phase);
-        return x;
-    }
-
-    private static Phaselock unsteered(int phase, int detector) {
-        Phaselock x = unsteered(phase);
-        x.setDetector(detector);
-        return x;
-    }
-
-    private static void pass(Phaselock x, int ticks) {
-        int left = ticks;
-        while (left > 0) {
-            int part = Math.min(800, left);
-            x.run(part);
-            left -= part;
-        }
     }
 
     // ---- promise 1
@@ -220,7 +195,7 @@ public final class PromiseTests {
         checks.due("error when late", x.error(), 1);
         checks.due("integral when late", x.integral(), 50);
         checks.due("control when late", x.control(), 3);
-        Phaselock y = unsteered(32768, 1);
+        Phaselock y = Setups.unsteered(32768, 1);
         y.setGains(1, 20);
         y.run(40);
         checks.due("integral of the error 16", y.integral(), 320);
@@ -228,7 +203,7 @@ public final class PromiseTests {
     }
 
     private void receiverPhase() {
-        Phaselock x = unsteered(0);
+        Phaselock x = Setups.unsteered(0);
         checks.due("setPhase(65535)", x.setPhase(65535), 0);
         checks.due("setPhase(0)", x.setPhase(0), 65535);
         for (int wrong : new int[] {-1, 65536, Integer.MIN_VALUE, Integer.MAX_VALUE}) {
@@ -242,7 +217,7 @@ public final class PromiseTests {
         checks.due("setPhase behind ticks", x.setPhase(7), 100 + 2 * 4096);
         checks.due("sender stays", x.sender(), 2 * 4096);
         // Over 16384 by setPhase, there is no late strobe, which would measure 0 - 8.
-        Phaselock y = unsteered(0, 4);
+        Phaselock y = Setups.unsteered(0, 4);
         y.setPhase(16384);
         y.run(4);
         checks.due("no late strobe by setPhase", y.error(), 0);
@@ -263,7 +238,7 @@ public final class PromiseTests {
     // ---- promises 8 to 14
 
     private void run() {
-        Phaselock x = unsteered(0);
+        Phaselock x = Setups.unsteered(0);
         for (int wrong : new int[] {0, -1, 801, Integer.MIN_VALUE, Integer.MAX_VALUE}) {
             checks.dueThrow("run(" + wrong + ")", BAD_ARGUMENT, () -> x.run(wrong));
         }
@@ -329,7 +304,7 @@ public final class PromiseTests {
     }
 
     private void receiver() {
-        Phaselock x = unsteered(61439);
+        Phaselock x = Setups.unsteered(61439);
         x.run(1);
         checks.due("receiver a little below a bit", x.receiver(), 65535);
         checks.due("no data strobe below a bit", x.received(), 0);
@@ -347,7 +322,7 @@ public final class PromiseTests {
     // ---- promises 15 to 17 with the detectors
 
     private void bangBang() {
-        Phaselock x = unsteered(0);
+        Phaselock x = Setups.unsteered(0);
         x.run(16);
         checks.due("bang-bang at the first bit", x.error(), 0);
         x.run(16);
@@ -356,7 +331,7 @@ public final class PromiseTests {
         checks.due("bang-bang behind the edge 0 to 1", x.error(), -1);
         x.run(32);
         checks.due("bang-bang without an edge", x.error(), 0);
-        Phaselock y = unsteered(32768);
+        Phaselock y = Setups.unsteered(32768);
         y.run(39);
         checks.due("bang-bang at the second bit", y.error(), 0);
         y.run(1);
@@ -366,14 +341,14 @@ public final class PromiseTests {
     }
 
     private void hogge() {
-        Phaselock x = unsteered(1, 1);
+        Phaselock x = Setups.unsteered(1, 1);
         x.run(31);
         checks.due("Hogge ahead of an edge", x.error(), 0);
         x.run(1);
         checks.due("Hogge, rounded towards 0", x.error(), -112);
         x.run(48);
         checks.due("Hogge without an edge", x.error(), 0);
-        Phaselock y = unsteered(32768 - 255, 1);
+        Phaselock y = Setups.unsteered(32768 - 255, 1);
         y.run(39);
         checks.due("Hogge waits for the data strobe", y.error(), 0);
         // 4096 and 255 more, so that the quotient is a little below 17.
@@ -381,7 +356,7 @@ public final class PromiseTests {
         checks.due("Hogge, positive", y.error(), 16);
         y.run(48);
         checks.due("Hogge without an edge, again", y.error(), 0);
-        Phaselock z = unsteered(0, 1);
+        Phaselock z = Setups.unsteered(0, 1);
         z.run(31);
         z.setPhase(0);
         z.run(15);
@@ -395,7 +370,7 @@ public final class PromiseTests {
     }
 
     private void multiplying() {
-        Phaselock x = unsteered(32768, 2);
+        Phaselock x = Setups.unsteered(32768, 2);
         x.run(39);
         checks.due("product ahead of the data strobe", x.error(), 0);
         x.run(1);
@@ -404,23 +379,23 @@ public final class PromiseTests {
         checks.due("product of the next edge", x.error(), 2);
         x.run(32);
         checks.due("product without an edge", x.error(), 0);
-        Phaselock y = unsteered(0, 2);
+        Phaselock y = Setups.unsteered(0, 2);
         y.run(32);
         checks.due("product of 1 outside", y.error(), -1);
         y.run(16);
         checks.due("product of 3 within and 5 outside", y.error(), -2);
         // One phase less: then 16384 isn't reached at the tick 37, but 49151 is at the tick 41.
-        Phaselock z = unsteered(32767, 2);
+        Phaselock z = Setups.unsteered(32767, 2);
         z.run(41);
         checks.due("product with the edges of the range", z.error(), 4);
         // Once more one less than the range, 16383 at the tick 37: 2 within, and 6 outside.
-        Phaselock w = unsteered(65535, 2);
+        Phaselock w = Setups.unsteered(65535, 2);
         w.run(49);
         checks.due("product with 16383 outside", w.error(), -4);
     }
 
     private void gardner() {
-        Phaselock x = unsteered(32768, 3);
+        Phaselock x = Setups.unsteered(32768, 3);
         x.run(8);
         // No middle strobe was before, so that the middle level is 0.
         checks.due("Gardner at the first bit", x.error(), 0);
@@ -430,7 +405,7 @@ public final class PromiseTests {
         checks.due("Gardner at the edge 1 to 0", x.error(), 6 * (-8 - 8));
         x.run(16);
         checks.due("Gardner at the edge 0 to 1", x.error(), -6 * (8 + 8));
-        Phaselock y = unsteered(0, 3);
+        Phaselock y = Setups.unsteered(0, 3);
         y.run(16);
         checks.due("Gardner with the level before 0 at first", y.error(), 8 * (8 - 0));
         y.run(16);
@@ -438,7 +413,7 @@ public final class PromiseTests {
     }
 
     private void earlyLate() {
-        Phaselock x = unsteered(0, 4);
+        Phaselock x = Setups.unsteered(0, 4);
         x.run(3);
         checks.due("early-late ahead of the late strobe", x.error(), 0);
         x.run(1);
@@ -451,15 +426,15 @@ public final class PromiseTests {
         checks.due("early-late with the level -2", x.error(), 8 - 2);
         x.run(16);
         checks.due("early-late with the level 2", x.error(), 8 - 2);
-        Phaselock y = unsteered(0, 1);
+        Phaselock y = Setups.unsteered(0, 1);
         y.run(12);
         y.setDetector(4);
         y.run(8);
         checks.due("the early value is kept for any detector", y.error(), 0);
-        Phaselock z = unsteered(0, 3);
+        Phaselock z = Setups.unsteered(0, 3);
         z.run(4);
         checks.due("other detectors measure none at a late strobe", z.error(), 0);
-        Phaselock w = unsteered(36864, 4);
+        Phaselock w = Setups.unsteered(36864, 4);
         w.run(42);
         checks.due("early-late ahead of a level of zeros", w.error(), 0);
         w.run(1);
@@ -467,101 +442,34 @@ public final class PromiseTests {
     }
 
     private void resetBehindEarlyLate() {
-        Phaselock x = unsteered(32768, 4);
+        Phaselock x = Setups.unsteered(32768, 4);
         x.run(40);
         x.setDetector(2);
         x.run(16);
         checks.due("the product becomes 0 whatever the detector is", x.error(), 2);
-        Phaselock y = unsteered(0, 4);
+        Phaselock y = Setups.unsteered(0, 4);
         y.run(32);
         y.setDetector(1);
         y.run(8);
         y.setPhase(65535);
         y.run(1);
         checks.due("the edge error becomes 0 whatever the detector is", y.error(), 0);
-        Phaselock z = unsteered(0, 4);
+        Phaselock z = Setups.unsteered(0, 4);
         z.run(16);
         z.setDetector(3);
         z.run(16);
         checks.due("the level is kept whatever the detector is", z.error(), 8 * (6 - 8));
     }
 
-    /** Makes the edges of the line be measured as +128 or -127 by the detector 1, in their first ticks. */
-    private static void measureEdge(Phaselock x, boolean positive) {
-        if (positive) {
-            x.setPhase(0);
-            x.run(1);
-        }
-        x.setPhase(65535);
-        x.run(1);
-    }
-
-    private static Phaselock withManyEdges(boolean positive, int edges) {
-        Phaselock x = new Phaselock();
-        x.setDetector(1);
-        x.setGains(0, 64);
-        int number = 0;
-        for (int edge = 0; edge < edges; edge++) {
-            int before = x.line();
-            do {
-                number++;
-            } while (bitAt(number) == before);
-            // Quiet ticks up to the one just before the edge; their data strobes measure 0.
-            pass(x, 16 * number - 1 - x.ticks());
-            measureEdge(x, positive);
-        }
-        return x;
-    }
-
-    private static int bitAt(int number) {
-        Phaselock scout = new Phaselock();
-        pass(scout, 16 * number);
-        return scout.line();
-    }
-
-    private void integralIsKeptInRange() {
-        checks.due("integral of 31 errors of 128", withManyEdges(true, 31).integral(), 31 * 8192);
-        checks.due("integral of 32 errors of 128", withManyEdges(true, 32).integral(), 262144);
-        Phaselock x = withManyEdges(true, 34);
-        checks.due("error at the greatest integral", x.error(), 128);
-        checks.due("integral at its greatest", x.integral(), 262144);
-        checks.due("control at the greatest integral", x.control(), 1024);
-        checks.due("integral of 32 errors of -127", withManyEdges(false, 32).integral(), -32 * 8128);
-        Phaselock y = withManyEdges(false, 34);
-        checks.due("error at the least integral", y.error(), -127);
-        checks.due("integral at its least", y.integral(), -262144);
-        checks.due("control at the least integral", y.control(), -1024);
-    }
-
-    private void controlIsKeptInRange() {
-        Phaselock x = unsteered(32768, 1);
-        x.setGains(63, 64);
-        x.run(40);
-        checks.due("control near its greatest", x.control(), 63 * 16 + 4);
-        Phaselock y = unsteered(32768, 1);
-        y.setGains(64, 64);
-        y.run(40);
-        checks.due("integral beside the greatest control", y.integral(), 1024);
-        checks.due("control at its greatest", y.control(), 1024);
-        y.run(1);
-        checks.due("receiver by the greatest control", y.receiver(), 5120);
-        Phaselock z = unsteered(0, 1);
-        z.setGains(64, 64);
-        z.run(32);
-        checks.due("control at its least", z.control(), -1024);
-        z.run(1);
-        checks.due("receiver by the least control", z.receiver(), 3072);
-    }
-
     // ---- promises 18 to 24
 
     private void receivedBits() {
-        Phaselock x = unsteered(32768);
+        Phaselock x = Setups.unsteered(32768);
         x.run(8);
         checks.due("received at the first strobe", x.received(), 1);
         checks.due("the first bit", x.bit(1), 1);
         checks.dueThrow("bit(2) of 1", BAD_INDEX, () -> x.bit(2));
-        pass(x, 47 * 16);
+        Setups.pass(x, 47 * 16);
         checks.due("received at the strobe 48", x.received(), 48);
         for (int ago = 1; ago <= 32; ago++) {
             checks.due("bit(" + ago + ")", x.bit(ago), FIRST_BITS.charAt(48 - ago) - '0');
@@ -569,8 +477,8 @@ public final class PromiseTests {
         for (int wrong : new int[] {0, -1, 33, 40, Integer.MIN_VALUE, Integer.MAX_VALUE}) {
             checks.dueThrow("bit(" + wrong + ")", BAD_INDEX, () -> x.bit(wrong));
         }
-        Phaselock y = unsteered(32768);
-        pass(y, 8 + 30 * 16);
+        Phaselock y = Setups.unsteered(32768);
+        Setups.pass(y, 8 + 30 * 16);
         checks.due("bit(31) of 31", y.bit(31), 1);
         checks.dueThrow("bit(32) of 31", BAD_INDEX, () -> y.bit(32));
         y.run(16);
@@ -578,7 +486,7 @@ public final class PromiseTests {
     }
 
     private void phase() {
-        Phaselock x = unsteered(0);
+        Phaselock x = Setups.unsteered(0);
         x.run(15);
         checks.dueThrow("phase ahead of a strobe", BAD_STATE, x::phase);
         x.run(1);
@@ -589,30 +497,13 @@ public final class PromiseTests {
         x.setPhase(65535);
         x.run(1);
         checks.due("the greatest phase", x.phase(), 32767);
-        Phaselock y = unsteered(32768);
+        Phaselock y = Setups.unsteered(32768);
         y.run(8);
         checks.due("phase in the middle", y.phase(), 0);
     }
 
-    /** Reads a bit twice, a tick behind a data strobe of a receiver at the phase 0. */
-    private static void readTwice(Phaselock x) {
-        x.setPhase(65535);
-        x.run(1);
-        x.setPhase(4096);
-        x.run(15);
-    }
-
-    /** Skips a bit, as the strobe that is due in 16 ticks doesn't come. */
-    private static void skipOne(Phaselock x) {
-        x.run(15);
-        x.setPhase(0);
-        x.run(1);
-        x.setPhase(0);
-        x.run(16);
-    }
-
     private void repeated() {
-        Phaselock x = unsteered(65535);
+        Phaselock x = Setups.unsteered(65535);
         x.run(1);
         checks.due("repeated at the first strobe", x.repeated(), 0);
         x.setPhase(65535);
@@ -623,10 +514,10 @@ public final class PromiseTests {
         checks.due("repeated at a third strobe", x.repeated(), 2);
         checks.due("skipped beside repeated", x.skipped(), 0);
         checks.due("received with repeated", x.received(), 3);
-        Phaselock y = unsteered(32768);
-        pass(y, 8 + 10 * 16);
+        Phaselock y = Setups.unsteered(32768);
+        Setups.pass(y, 8 + 10 * 16);
         checks.due("repeated in step", y.repeated(), 0);
-        readTwice(y);
+        Setups.readTwice(y);
         checks.due("repeated out of step", y.repeated(), 1);
         checks.due("bit read twice", y.bit(1), y.bit(2));
         y.run(160);
@@ -634,7 +525,7 @@ public final class PromiseTests {
     }
 
     private void skipped() {
-        Phaselock x = unsteered(0);
+        Phaselock x = Setups.unsteered(0);
         for (int part = 0; part < 5; part++) {
             x.run(15);
             x.setPhase(0);
@@ -645,7 +536,7 @@ public final class PromiseTests {
         checks.due("skipped: number of the first strobe", x.sent(), 5);
         x.run(16);
         checks.due("skipped in step", x.skipped(), 0);
-        skipOne(x);
+        Setups.skipOne(x);
         checks.due("skipped one", x.skipped(), 1);
         x.run(15);
         x.setPhase(0);
@@ -657,28 +548,28 @@ public final class PromiseTests {
     }
 
     private void locked() {
-        Phaselock x = unsteered(32768);
-        pass(x, 503);
+        Phaselock x = Setups.unsteered(32768);
+        Setups.pass(x, 503);
         checks.due("31 data strobes", x.received(), 31);
         checks.due("locked with 31 data strobes", x.isLocked(), false);
         x.run(1);
         checks.due("locked with 32 data strobes", x.isLocked(), true);
         x.run(800);
         checks.due("locked still", x.isLocked(), true);
-        Phaselock y = unsteered(0);
+        Phaselock y = Setups.unsteered(0);
         y.run(800);
         checks.due("locked far from the middle", y.isLocked(), false);
     }
 
     /** Whether it is locked with strobes at a tick of each bit, the sender's phase being one less if told. */
     private static Phaselock lockedAt(int tickOfBit, boolean oneLess) {
-        Phaselock x = unsteered(65536 - 4096 * tickOfBit);
+        Phaselock x = Setups.unsteered(65536 - 4096 * tickOfBit);
         if (oneLess) {
             x.setOffset(-1);
         }
         x.run(1);
         x.setOffset(0);
-        pass(x, 800);
+        Setups.pass(x, 800);
         return x;
     }
 
@@ -694,29 +585,29 @@ public final class PromiseTests {
     }
 
     private void lockedAndSlips() {
-        Phaselock x = unsteered(32768);
-        pass(x, 8 + 40 * 16);
+        Phaselock x = Setups.unsteered(32768);
+        Setups.pass(x, 8 + 40 * 16);
         checks.due("locked ahead of slips", x.isLocked(), true);
         x.setPhase(65535);
         x.run(1);
         x.setPhase(4096);
         checks.due("the phase of a bit read twice", x.phase(), 4096);
         checks.due("locked at a bit read twice", x.isLocked(), false);
-        pass(x, 15 + 30 * 16);
+        Setups.pass(x, 15 + 30 * 16);
         checks.due("locked 31 strobes behind", x.isLocked(), false);
         x.run(16);
         checks.due("locked 32 strobes behind", x.isLocked(), true);
-        skipOne(x);
+        Setups.skipOne(x);
         checks.due("the phase behind a skipped bit", x.phase(), 0);
         checks.due("locked at a skipped bit", x.isLocked(), false);
-        pass(x, 31 * 16);
+        Setups.pass(x, 31 * 16);
         checks.due("locked 31 strobes behind it", x.isLocked(), false);
         x.run(16);
         checks.due("locked 32 strobes behind it", x.isLocked(), true);
     }
 
     private void wander() {
-        Phaselock x = unsteered(0);
+        Phaselock x = Setups.unsteered(0);
         for (int strobes = 1; strobes <= 40; strobes++) {
             x.run(16);
             checks.due("wander of strobes: " + strobes, x.wander(), 32768 * Math.min(32, strobes));
@@ -730,86 +621,86 @@ public final class PromiseTests {
     // ---- promises 25 to 27
 
     private void verifyAndSync() {
-        Phaselock x = unsteered(32768);
-        pass(x, 8 + 4 * 16);
+        Phaselock x = Setups.unsteered(32768);
+        Setups.pass(x, 8 + 4 * 16);
         checks.due("hunt with 5 bits", x.alignment(), 0);
         x.run(16);
         checks.due("verify with 6 bits", x.alignment(), 1);
-        pass(x, 47 * 16);
+        Setups.pass(x, 47 * 16);
         checks.due("verify with one match", x.alignment(), 1);
         x.run(16);
         checks.due("sync with two matches", x.alignment(), 2);
         checks.due("no frame by the matches", x.frames(), 0);
-        pass(x, 23 * 16);
+        Setups.pass(x, 23 * 16);
         checks.due("no frame ahead of its end", x.frames(), 0);
         x.run(16);
         checks.due("a frame", x.frames(), 1);
-        pass(x, 24 * 16 * 5);
+        Setups.pass(x, 24 * 16 * 5);
         checks.due("six frames", x.frames(), 6);
         checks.due("no losses", x.losses(), 0);
         checks.due("sync still", x.alignment(), 2);
     }
 
     private void verifyFails() {
-        Phaselock x = unsteered(32768);
-        pass(x, 8 + 5 * 16);
+        Phaselock x = Setups.unsteered(32768);
+        Setups.pass(x, 8 + 5 * 16);
         checks.due("verify", x.alignment(), 1);
         // 25 bits are received then up to the end of the next sync word, the look being at the 24th.
-        readTwice(x);
-        pass(x, 21 * 16);
+        Setups.readTwice(x);
+        Setups.pass(x, 21 * 16);
         checks.due("verify ahead of the miss", x.alignment(), 1);
         x.run(16);
         checks.due("hunt behind the miss", x.alignment(), 0);
         x.run(16);
         checks.due("verify at the sync word behind the miss", x.alignment(), 1);
-        pass(x, 24 * 16);
-        readTwice(x);
-        pass(x, 22 * 16);
+        Setups.pass(x, 24 * 16);
+        Setups.readTwice(x);
+        Setups.pass(x, 22 * 16);
         checks.due("hunt behind a match and a miss", x.alignment(), 0);
         x.run(16);
         checks.due("verify once more", x.alignment(), 1);
-        pass(x, 24 * 16);
+        Setups.pass(x, 24 * 16);
         checks.due("the match ahead of the miss is forgotten", x.alignment(), 1);
-        pass(x, 24 * 16);
+        Setups.pass(x, 24 * 16);
         checks.due("sync at last", x.alignment(), 2);
         checks.due("no loss in verify", x.losses(), 0);
     }
 
     private static Phaselock synced() {
-        Phaselock x = unsteered(32768);
-        pass(x, 8 + 53 * 16);
+        Phaselock x = Setups.unsteered(32768);
+        Setups.pass(x, 8 + 53 * 16);
         return x;
     }
 
     private void framesAndLosses() {
         Phaselock x = synced();
         checks.due("in sync", x.alignment(), 2);
-        skipOne(x);
+        Setups.skipOne(x);
         // A strobe later than the sync word: 23 bits were received since the one at which it would end.
-        pass(x, 23 * 16);
+        Setups.pass(x, 23 * 16);
         checks.due("sync with one miss", x.alignment(), 2);
-        pass(x, 24 * 16);
+        Setups.pass(x, 24 * 16);
         checks.due("sync with two misses", x.alignment(), 2);
         checks.due("no loss with two misses", x.losses(), 0);
-        pass(x, 23 * 16);
+        Setups.pass(x, 23 * 16);
         checks.due("sync just ahead of the third miss", x.alignment(), 2);
         x.run(16);
         checks.due("a loss with three misses", x.losses(), 1);
         checks.due("hunt with three misses", x.alignment(), 0);
         checks.due("no frame with misses", x.frames(), 0);
         // The bits 136 to 141 are the sync word by chance, 15 bits on; 24 bits behind that it isn't.
-        pass(x, 14 * 16);
+        Setups.pass(x, 14 * 16);
         checks.due("hunt ahead of a chance sync word", x.alignment(), 0);
         x.run(16);
         checks.due("verify at a chance sync word", x.alignment(), 1);
-        pass(x, 24 * 16);
+        Setups.pass(x, 24 * 16);
         checks.due("hunt behind a chance sync word", x.alignment(), 0);
-        pass(x, 8 * 16);
+        Setups.pass(x, 8 * 16);
         checks.due("verify behind a loss", x.alignment(), 1);
-        pass(x, 48 * 16);
+        Setups.pass(x, 48 * 16);
         checks.due("sync behind a loss", x.alignment(), 2);
-        skipOne(x);
-        pass(x, 70 * 16);
+        Setups.skipOne(x);
+        Setups.pass(x, 70 * 16);
         checks.due("no second loss with two misses", x.losses(), 1);
         x.run(16);
         checks.due("a second loss", x.losses(), 2);
@@ -820,10 +711,10 @@ public final class PromiseTests {
     private void missesAreForgotten() {
         Phaselock x = synced();
         for (int round = 1; round <= 3; round++) {
-            readTwice(x);
-            pass(x, 46 * 16);
-            skipOne(x);
-            pass(x, 24 * 16 + 16);
+            Setups.readTwice(x);
+            Setups.pass(x, 46 * 16);
+            Setups.skipOne(x);
+            Setups.pass(x, 24 * 16 + 16);
             checks.due("sync behind two misses", x.alignment(), 2);
             checks.due("frames behind two misses", x.frames(), round);
             checks.due("losses behind two misses", x.losses(), 0);
